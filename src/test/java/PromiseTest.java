@@ -17,6 +17,7 @@ public final class PromiseTest {
         promise7SettleShares();
         promise7SettleCharges();
         promise7SettleRefused();
+        promises6To8WithAllFields();
         promise8Buy();
         promise9Average();
         promise10Look();
@@ -193,6 +194,9 @@ public final class PromiseTest {
         due("wheat", x.look(9, 12, 4, 3), wheat);
         due("oats", x.look(9, 12, 4, 5), oats);
         due("an ended one", x.join(13, 0, 4), NONE);
+        due("the one ended", x.look(9, 12, 0, 0), NONE);
+        due("the other ended", x.look(9, 12, 1, 0), NONE);
+        due("the one was there", x.look(9, 11, 1, 0), 10000);
         due("part of more than a made one's area", x.part(13, 4, 15000), 5);
         due("the rest", x.look(10, 13, 6, 0), 5000);
         x.buy(14, 5);
@@ -324,6 +328,37 @@ public final class PromiseTest {
         due("the last field has none", y.look(7, 9, 2, 3), 0);
     }
 
+    private static void promises6To8WithAllFields() {
+        promise = "6 to 8";
+        TitheMap x = new TitheMap();
+        prices(x, 7, 1, 1, 1);
+        for (int f = 0; f < 60; f++) {
+            x.make(8, 1, 2, 0);
+        }
+        due("settle with 60 fields", x.settle(8, 60), 63);
+        due("buy with 60 fields", x.buy(8, 59), 64);
+        due("sell with 60 fields", x.sell(8, 59, 1), 65);
+        for (int e = 66; e < 80; e++) {
+            due("sell again", x.sell(8, 59, e % 2 * 2), e);
+        }
+        due("sell as the 81st", x.sell(8, 59, 5), NONE);
+        due("buy as the 81st", x.buy(8, 58), NONE);
+        due("part as the 81st", x.part(8, 59, 1), NONE);
+        due("the owner", x.look(80, 8, 59, 2), 2);
+        TitheMap y = new TitheMap();
+        prices(y, 7, 1, 1, 1);
+        y.make(8, 1, 2, 0);
+        for (int e = 4; e < 80; e++) {
+            y.price(200, 0, 1);
+        }
+        due("settle as the 81st", y.settle(8, 1), NONE);
+        TitheMap z = new TitheMap();
+        prices(z, 7, 1, 1, 1);
+        z.make(8, 1, 2, 0);
+        due("the least settling", z.settle(8, 1), 4);
+        looks(z, 5, 8, 0, 1, 2, 0, 100, 0, 0, 0);
+    }
+
     private static void promise8Buy() {
         promise = "8";
         TitheMap x = new TitheMap();
@@ -374,6 +409,7 @@ public final class PromiseTest {
         x.price(199, 2, 6);
         x.price(200, 2, 9);
         due("year 200", x.average(7, 200, 2), 6);
+        due("year 201, though prices are ahead of it", x.average(7, 201, 2), NONE);
     }
 
     private static void promise10Look() {
@@ -429,6 +465,11 @@ public final class PromiseTest {
         y.settle(8, 1000000);
         prices(y, 8, 1000, 1000, 1000);
         due("a great sum", y.money(8, 9, 0), 1000000000L);
+        due("a look at another year", y.look(8, 0, 0, 0), NONE);
+        due("does not change it", y.money(8, 9, 0), 1000000000L);
+        due("nor is it there in year 2", y.money(8, 2, 0), NONE);
+        prices(y, 200, 5, 5, 5);
+        due("year 201, though prices are ahead of it", y.money(11, 201, 0), NONE);
     }
 
     private static void promise12Owed() {
