@@ -139,10 +139,15 @@ final class Desk {
 
     /** The call is refused on a map that stands so, and the map is then as one on which it was never called. */
     static void refused(Supplier<Desk> start, String name, int... a) {
+        unchanged(start, NONE, name, a);
+    }
+
+    /** The call has this answer on a map that stands so, and the map is then as one on which it was never called. */
+    static void unchanged(Supplier<Desk> start, long want, String name, int... a) {
         for (int picture = 0; picture < PICTURES; picture++) {
-            Desk touched = start.get().due(NONE, name, a);
+            Desk touched = start.get().due(want, name, a);
             if (!touched.picture(picture).equals(start.get().picture(picture))) {
-                fault(name + Arrays.toString(a) + " was refused, but left a mark");
+                fault(name + Arrays.toString(a) + " left a mark");
             }
         }
     }

@@ -4,6 +4,9 @@ public final class EntryEdgesTest {
 
     public static void main(String[] args) {
         newObject();
+        constant();
+        refusedChangesNothing();
+        wrongInSeveralWays();
         priceRanges();
         priceWhateverActsThereAre();
         makeRanges();
@@ -25,6 +28,7 @@ public final class EntryEdgesTest {
         orderOfActs();
         lateActsOnOneField();
         lateActsThatChangeAField();
+        allEntriesAreActs();
         Desk.end();
     }
 
@@ -117,6 +121,59 @@ public final class EntryEdgesTest {
             busy.due(6, "count", 0);
         }
         busy.due(5000, "look", 6, 10, 0, 3);
+    }
+
+    private static void constant() {
+        Desk.sentence(1, "`NONE = -1`: There is none.");
+        new Desk().due(-1, "entry", 0, 0).due(TitheMap.NONE, "entry", 0, 0);
+    }
+
+    /** A refused entry stands in the way of none that comes behind it, not even of one that is like it but fits. */
+    private static void refusedChangesNothing() {
+        Desk.sentence(2, "A call that is refused (NONE, false) changes nothing.");
+        settled().due(NONE, "price", 7, 0, 1001).due(1, "average", 6, 8, 0).due(6, "price", 7, 0, 1000).due(1000, "average", 7, 8, 0);
+
+        Desk.sentence(3, "A call that is refused (NONE, false) changes nothing.");
+        settled().due(NONE, "make", 9, 10001, 1, 7).due(2, "make", 11, 3, 2, 8).looks(7, 11, 2, 3, 2, 8, 0, 0, 0, 0).looks(7, 10, 2, NONE);
+
+        Desk.sentence(4, "A call that is refused (NONE, false) changes nothing.");
+        Desk x = settled().due(NONE, "part", 12, 0, 10).due(2, "count", 1).due(NONE, "field", 0, 3).due(2, "part", 13, 0, 9);
+        x.looks(7, 12, 0, 10, 0, 1, 5000, 5000, 5000, 0).due(13, "field", 0, 1).due(6, "field", 0, 3).due(9, "look", 7, 13, 2, 0);
+
+        Desk.sentence(5, "A call that is refused (NONE, false) changes nothing.");
+        Desk y = settled().told("sell", 14, 0, 5).due(NONE, "join", 13, 0, 1).due(NONE, "join", 14, 1, 0).due(2, "count", 1);
+        y.due(7, "sell", 14, 1, 5).due(2, "join", 14, 1, 0).due(1, "field", 2, 4).due(0, "field", 2, 5).due(8, "field", 0, 3);
+
+        Desk.sentence(6, "A call that is refused (NONE, false) changes nothing.");
+        settled().due(NONE, "sell", 11, 0, 1).due(NONE, "sell", 9, 2, 4).due(6, "sell", 11, 0, 4).due(1, "look", 7, 10, 0, 2)
+            .due(4, "look", 7, 11, 0, 2).due(7, "count", 0);
+
+        Desk.sentence(7, "A call that is refused (NONE, false) changes nothing.");
+        settled().due(NONE, "settle", 9, 600).charges(6, 9, 0, 0, 0, 0).charges(6, 10, 0, 5000, 5000, 5000).due(6, "count", 0);
+        unsettled().due(NONE, "settle", 15, 600).due(0, "parish", 4, 200, 6).due(4, "settle", 14, 3).charges(5, 14, 0, 100, 100, 100);
+
+        Desk.sentence(8, "A call that is refused (NONE, false) changes nothing.");
+        settled().due(NONE, "buy", 9, 0).due(0, "look", 6, 200, 0, 6).due(6, "buy", 11, 0).due(NONE, "buy", 12, 0)
+            .charges(7, 10, 0, 5000, 5000, 5000).due(1, "look", 7, 11, 0, 6).due(7, "count", 0);
+    }
+
+    private static void wrongInSeveralWays() {
+        Desk.sentence(2, "NONE: no such CORN, year, pence, 80 are there.");
+        Desk.refused(EntryEdgesTest::lively, "price", 0, 3, 0);
+        Desk.refused(EntryEdgesTest::lively, "price", 201, -1, 1001);
+        Desk.refused(EntryEdgesTest::settled80, "price", 0, 3, 0);
+
+        Desk.sentence(3, "NONE: no such YEAR, AREA, KIND, OWNER, 80 ENTRIES or 60 FIELDS are there.");
+        Desk.refused(EntryEdgesTest::lively, "make", 7, 0, 3, 10);
+        Desk.refused(EntryEdgesTest::lively, "make", 201, 10001, -1, -1);
+        Desk.refused(EntryEdgesTest::settled80, "make", 7, 0, 3, 10);
+        Desk.refused(() -> fields60().filled(80), "make", 8, 1, 0, 0);
+
+        Desk.sentence(4, "NONE: no such YEAR, FIELD, AREA, 80 ENTRIES or 59 FIELDS are there, or not all would FIT.");
+        Desk.refused(EntryEdgesTest::lively, "part", 7, 4, 0);
+        Desk.refused(EntryEdgesTest::lively, "part", 201, -1, -1);
+        Desk.refused(() -> fields60().filled(80), "part", 7, 60, 2);
+        Desk.refused(() -> fields60().filled(80), "part", 9, 0, 1);
     }
 
     private static void priceRanges() {
@@ -303,6 +360,9 @@ public final class EntryEdgesTest {
     }
 
     private static void partShares() {
+        Desk.sentence(4, "PART: a FIELD ends");
+        lively().looks(8, 12, 1, 10, 0, 1, 5000, 5000, 5000, 0).looks(8, 13, 1, NONE).looks(8, 200, 1, NONE).due(3, "parish", 8, 13, 0);
+
         Desk.sentence(4, "two new ones have its KIND and OWNER, the first (the lower number) so much of its AREA, the other one the rest");
         Desk x = new Desk().told("make", 8, 7, 2, 9).told("sell", 9, 0, 3).told("part", 10, 0, 2);
         x.looks(3, 10, 0, NONE).looks(3, 10, 1, 2, 2, 3, 0, 0, 0, 0).looks(3, 10, 2, 5, 2, 3, 0, 0, 0, 0);
@@ -385,8 +445,14 @@ public final class EntryEdgesTest {
         Desk.refused(EntryEdgesTest::joined, "join", 12, 0, 1);
         Desk.refused(EntryEdgesTest::joined, "join", 13, 2, 1);
 
-        Desk.sentence(5, "JOIN: two FIELDS of one KIND and OWNER");
+        Desk.sentence(5, "JOIN: two FIELDS that fit as told");
         Desk.refused(EntryEdgesTest::twoFields, "join", 10, 0, 0);
+        Desk.refused(EntryEdgesTest::twoFields, "join", 10, 1, 1);
+        Desk.refused(EntryEdgesTest::bothBought, "join", 14, 1, 1);
+        Desk.taken(EntryEdgesTest::twoFields, 2, "join", 10, 0, 1);
+        Desk.taken(EntryEdgesTest::twoFields, 2, "join", 10, 1, 0);
+
+        Desk.sentence(5, "JOIN: two FIELDS of one KIND and OWNER");
         for (int g = 2; g < 5; g++) {
             Desk.refused(EntryEdgesTest::unlike, "join", 10, 0, g);
             Desk.refused(EntryEdgesTest::unlike, "join", 10, g, 0);
@@ -775,5 +841,38 @@ public final class EntryEdgesTest {
 
         Desk.sentence(3, "also those of later YEARS that were told ahead of it");
         lively().due(4, "make", 8, 10, 0, 1).charges(9, 11, 4, 3400, 3300, 3300);
+    }
+
+    /** The last years first: each new act is done ahead of all that were told. */
+    private static Desk acts79() {
+        Desk x = new Desk();
+        for (int f = 0; f < 58; f++) {
+            x.told("make", 100 - f, 2, 0, 0);
+        }
+        for (int owner = 1; owner <= 9; owner++) {
+            x.told("sell", 150 - owner, 57, owner);
+        }
+        for (int f = 0; f < 12; f++) {
+            x.told("sell", 120 - f, f, 3);
+        }
+        return x;
+    }
+
+    private static void allEntriesAreActs() {
+        Desk.sentence(6, "ENTRIES 0 to 79, in the order in which they were told");
+        Desk x = acts79().due(NONE, "sell", 150, 57, 1).due(NONE, "sell", 140, 57, 9).due(79, "sell", 150, 57, 9);
+        x.due(NONE, "sell", 151, 57, 8).due(80, "count", 0);
+        for (int owner = 1; owner <= 9; owner++) {
+            x.due(owner, "look", 80, 150 - owner, 57, 2).due(0, "look", 57 + owner, 149 - owner, 57, 2);
+        }
+        x.due(9, "look", 80, 150, 57, 2).due(1, "look", 79, 150, 57, 2).due(1, "parish", 80, 43, 0).due(58, "parish", 80, 100, 0);
+
+        Desk.sentence(4, "ENTRIES 0 to 79, in the order in which they were told");
+        Desk y = acts79().due(NONE, "part", 140, 57, 1).due(NONE, "part", 149, 57, 2).due(58, "part", 149, 57, 1);
+        y.due(60, "count", 1).due(1, "look", 80, 149, 59, 2).due(79, "field", 57, 3).due(79, "field", 59, 2).due(58, "entry", 79, 3);
+
+        Desk.sentence(5, "ENTRIES 0 to 79, in the order in which they were told");
+        Desk z = acts79().due(NONE, "join", 119, 0, 1).due(58, "join", 120, 0, 1).due(NONE, "join", 121, 2, 3);
+        z.due(4, "look", 80, 120, 58, 0).due(79, "field", 0, 3).due(79, "field", 1, 3).due(58, "entry", 79, 3);
     }
 }

@@ -26,6 +26,9 @@ public final class QuestionEdgesTest {
         entryRanges();
         entryWhats();
         count();
+        refusedQuestionsChangeNothing();
+        answersChangeNothing();
+        allEntriesKnown();
         Desk.end();
     }
 
@@ -547,5 +550,63 @@ public final class QuestionEdgesTest {
         full().due(10, "count", 0).due(5, "count", 1).due(NONE, "count", 2).due(NONE, "count", -1);
         new Desk().filled(80).due(80, "count", 0).due(NONE, "price", 1, 0, 1).due(80, "count", 0);
         new Desk().made(60).due(60, "count", 1).due(NONE, "make", 8, 1, 0, 0).due(60, "count", 1).due(60, "count", 0);
+    }
+
+    private static void refusedQuestion(int promise, String name, int... a) {
+        Desk.sentence(promise, "A call that is refused (NONE, false) changes nothing.");
+        Desk.refused(QuestionEdgesTest::full, name, a);
+        for (int place = 0; place < a.length; place++) {
+            Desk.refusedFar(QuestionEdgesTest::full, place, name, a);
+        }
+    }
+
+    private static void refusedQuestionsChangeNothing() {
+        refusedQuestion(9, "average", 11, 8, 0);
+        refusedQuestion(10, "look", 11, 9, 0, 0);
+        refusedQuestion(11, "money", 11, 9, 0);
+        refusedQuestion(12, "owed", 11, 9, 1);
+        refusedQuestion(13, "parish", 11, 9, 0);
+        refusedQuestion(14, "cost", 7, 7);
+        refusedQuestion(15, "field", 5, 0);
+        refusedQuestion(16, "differ", 0, 11, 9, 0);
+        refusedQuestion(17, "entry", 10, 0);
+        refusedQuestion(18, "count", 2);
+    }
+
+    private static void answersChangeNothing() {
+        Desk.sentence(10, "so that each question is asked in two times: what held in a year, as it was known behind so many entries");
+        Desk.unchanged(QuestionEdgesTest::full, 1, "average", 3, 8, 0);
+        Desk.unchanged(QuestionEdgesTest::full, 5000, "look", 6, 10, 0, 3);
+        Desk.unchanged(QuestionEdgesTest::full, 150, "money", 6, 10, 0);
+        Desk.unchanged(QuestionEdgesTest::full, 300, "owed", 6, 10, NONE);
+        Desk.unchanged(QuestionEdgesTest::full, 0, "parish", 0, 0, 6);
+        Desk.unchanged(QuestionEdgesTest::full, 3750, "cost", 8, 7);
+        Desk.unchanged(QuestionEdgesTest::full, 9, "field", 0, 0);
+        Desk.unchanged(QuestionEdgesTest::full, 1, "differ", 5, 0, 9, 1);
+        Desk.unchanged(QuestionEdgesTest::full, 6, "entry", 7, 0);
+        Desk.unchanged(QuestionEdgesTest::full, 10, "count", 0);
+    }
+
+    /** The 80th entry is a purchase, the 79th a settling. */
+    private static void allEntriesKnown() {
+        Desk x = new Desk().prices(7, 1, 1, 1).told("make", 8, 10, 0, 1).filled(78).told("settle", 9, 300).told("buy", 11, 0);
+        Desk.sentence(10, "A KNOWING k (0 to how many there are)");
+        x.looks(80, 11, 0, 10, 0, 1, 0, 0, 0, 1).looks(79, 11, 0, 10, 0, 1, 10000, 10000, 10000, 0).looks(81, 11, 0, NONE);
+        Desk.sentence(11, "A KNOWING k (0 to how many there are)");
+        x.due(0, "money", 80, 11, 0).due(300, "money", 79, 11, 0).due(0, "money", 78, 11, 0).due(NONE, "money", 81, 11, 0);
+        Desk.sentence(12, "A KNOWING k (0 to how many there are)");
+        x.due(0, "owed", 80, 11, 1).due(300, "owed", 79, 11, 1).due(NONE, "owed", 81, 11, 1);
+        Desk.sentence(13, "A KNOWING k (0 to how many there are)");
+        x.due(1, "parish", 80, 11, 5).due(0, "parish", 79, 11, 5).due(0, "parish", 78, 11, 6).due(NONE, "parish", 81, 11, 5);
+        Desk.sentence(14, "A KNOWING k (0 to how many there are)");
+        x.due(7500, "cost", 80, 79).due(NONE, "cost", 79, 79).due(NONE, "cost", 81, 79).due(NONE, "cost", 80, 80).due(NONE, "cost", 81, 80);
+        Desk.sentence(16, "A KNOWING k (0 to how many there are)");
+        differsAlone(x, 79, 11, 0);
+        differsAlone(x, 78, 9, 0);
+        x.due(NONE, "differ", 80, 81, 11, 0).due(NONE, "differ", 81, 80, 11, 0);
+        Desk.sentence(17, "ENTRIES 0 to 79");
+        entries(x, 79, 6, 11, 0, NONE);
+        entries(x, 78, 5, 9, NONE, NONE);
+        entries(x, 80, NONE, NONE, NONE, NONE);
     }
 }
